@@ -565,15 +565,6 @@ public final class DutyCase {
         return what == METHOD ? METHODS - 1 : what == PROFIT || what == STEP ? MOST_PART : 1;
     }
 
-    /** What MARGIN and INJURY have in common: ten-thousandths, and what they are where VALUE is 0. */
-    private static int marginOf(long sum, long value) {
-        if (value <= 0) {
-            return sum == 0 ? 0 : MOST_MARGIN;
-        }
-        long margin = Math.floorDiv(10000L * sum, value);
-        return (int) Math.max(0L, Math.min((long) MOST_MARGIN, margin));
-    }
-
     /** NAMES of one kind, as they come. */
     private static final class Names {
         final byte[] letters = new byte[MODELS * LETTERS];
@@ -1565,6 +1556,15 @@ public final class DutyCase {
             return sum;
         }
 
+        /** What MARGIN and INJURY have in common: ten-thousandths, and what they are where VALUE is 0. */
+        static int marginOf(long sum, long value) {
+            if (value <= 0) {
+                return sum == 0 ? 0 : MOST_MARGIN;
+            }
+            long margin = Math.floorDiv(10000L * sum, value);
+            return (int) Math.max(0L, Math.min((long) MOST_MARGIN, margin));
+        }
+
         private int marginAt(boolean zeroing, int raise) {
             return marginOf(sumAt(zeroing, raise), value + THOUSAND * raise * allMany);
         }
@@ -1688,7 +1688,7 @@ public final class DutyCase {
                     targetMany += sales.many[i];
                 }
             }
-            return marginOf(sum, value);
+            return Comparison.marginOf(sum, value);
         }
 
         int rateOfOthers(Book book) {

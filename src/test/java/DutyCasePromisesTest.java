@@ -195,11 +195,37 @@ public final class DutyCasePromisesTest {
         }
         due("cost", x.cost(0, 0), 100);
         due("nothing to undo", x.undo(), NONE);
+        // More than once: what an earlier text or act has left anywhere must not show.
+        for (int round = 0; round < 3; round++) {
+            Check.end(x, "adjust home 1;adjust export 2;adjust third 3;model a 1 0 0;model b 1 0 0;"
+                    + "firm w;firm x;firm y;firm z;silent z;");
+            x.read();
+            for (int firm = 0; firm < 4; firm++) {
+                x.silent(firm, true);
+                x.costs(firm, 0, 7);
+                x.costs(firm, 1, 7);
+            }
+            for (int what = 0; what < 6; what++) {
+                x.set(what, 1);
+            }
+            Check.end(x, EMPTY);
+            x.read();
+            for (int firm = 0; firm < 4; firm++) {
+                due("costs are as the text tells", x.cost(firm, 0) + x.cost(firm, 1), 200);
+            }
+            int[] empty = {2, 4, 0, 0, 0, 0, 0, 0, 10, 0, 0, 0, 0};
+            for (int what = 0; what < empty.length; what++) {
+                due("a round's count " + what, x.count(what), empty[what]);
+            }
+            for (int market = 0; market < 3; market++) {
+                due("off", x.sale(x.put(market, 0, 0, 0, 0, 1, 1), 7), 0);
+            }
+        }
         x.write(0);
         x.read();
         due("profit without", x.count(8), 10);
         due("step without", x.count(9), 0);
-        due("what was written latest stays", x.octet(0), 'x');
+        due("what was written latest stays", x.octet(0), 'w');
     }
 
     // 5
@@ -265,7 +291,15 @@ public final class DutyCasePromisesTest {
             faultIs("firm " + word + ";", 5);
             faultIs("model " + word + " 1 1 1;", 6);
         }
+        for (String word : PlainCase.WORDS.subList(0, 8)) {
+            faultIs("z" + word.substring(1) + " x;", 0);
+            faultIs(word.substring(0, word.length() - 1) + "z x;", 0);
+        }
+        for (String word : PlainCase.MARKETS) {
+            faultIs("adjust z" + word.substring(1) + " 1;", 7);
+        }
         faultIs("firm x;firm x;", 12);
+        faultIs("firm xx;firm xy;firm yx;firm x;", NONE);
         faultIs("model x 1 1 1;firm x;", NONE);
         faultIs("model x 1 1 1;model x 1 1 1;", 20);
         faultIs("firm x;silent x;", NONE);
@@ -334,6 +368,13 @@ public final class DutyCasePromisesTest {
     // 6
     private void name() {
         DutyCase x = told("model abcdef 1 1 1;model g 1 1 1;firm abc;firm g;");
+        DutyCase six = told("model abcdea 1 1 1;model abcdeb 1 1 1;model abcdec 1 1 1;model abcded 1 1 1;"
+                + "model abcdee 1 1 1;model abcdef 1 1 1;firm fghijk;firm fghijl;firm fghijm;firm fghijn;");
+        for (int i = 0; i < 6; i++) {
+            due("last letter", six.name(false, i, 5), 'a' + i);
+            due("behind", six.name(false, i, 6), NONE);
+        }
+        due("last letter of the last firm", six.name(true, 3, 5), 'n');
         due("letter", x.name(false, 0, 0), 'a');
         due("letter", x.name(false, 0, 5), 'f');
         due("behind", x.name(false, 0, 6), NONE);
@@ -702,6 +743,10 @@ public final class DutyCasePromisesTest {
         due("of a month", x.worth(0, 0, 2, 2), 124000);
         due("of a month", x.worth(0, 0, 2, 5), 134000);
         due("none of that month", x.worth(0, 0, 2, 7), 129000);
+        x.put(0, 0, 0, 1, 7, 1, 146);
+        due("one of that month", x.worth(0, 0, 2, 7), 150000);
+        due("one of that month at another level", x.worth(0, 0, 3, 7), 140000);
+        x.undo();
         due("cost and profit", x.worth(0, 2, 2, NONE), 162000);
         due("another firm", x.worth(1, 0, 2, 11), 125000);
         x.set(3, 1);
@@ -805,6 +850,14 @@ public final class DutyCasePromisesTest {
         x.put(0, 1, 0, 1, 6, 50, 200);
         due("another firm's", x.match(e), many);
         check.thrown(NO_NUMBER, () -> x.match(far), "no export");
+        DutyCase y = told(EMPTY);
+        y.put(1, 0, 0, 0, 0, 999, 80);
+        y.put(0, 0, 0, 1, 0, 999, 200);
+        y.put(0, 0, 0, 0, 11, 999, 200);
+        due("no month outweighs a level", y.match(0), 2);
+        y.put(0, 0, 0, 0, 1, 999, 200);
+        y.put(0, 0, 0, 0, 0, 1, 200);
+        due("no many outweighs a month", y.match(0), 4);
         check.thrown(NO_SUCH, () -> x.match(99), "no sale");
         check.thrown(NO_SUCH, () -> x.match(-1), "no sale");
     }
@@ -975,6 +1028,10 @@ public final class DutyCasePromisesTest {
         negligibleAre(exporting(292, 8, 0, 0), 2);
         negligibleAre(exporting(930, 29, 29, 12), 14);
         negligibleAre(exporting(929, 29, 29, 13), 0);
+        negligibleAre(exporting(29, 29, 12, 930), 7);
+        negligibleAre(exporting(29, 29, 13, 929), 0);
+        negligibleAre(exporting(259, 8, 0, 0), 2);
+        negligibleAre(exporting(258, 8, 0, 0), 0);
         negligibleAre(exporting(0, 0, 0, 0), 0);
         DutyCase x = exporting(900, 20, 0, 0);
         x.put(0, 2, 0, 0, 0, 1, 1);
@@ -1029,6 +1086,9 @@ public final class DutyCasePromisesTest {
         dutyIs(z, 0, 426, 426, 99999, 426);
         DutyCase free = told("adjust export p;model a 100 0 5;firm x;sell export x a 0 0 1 500;");
         dutyIs(free, 0, 99999, 99999, 99999, 99999);
+        DutyCase one = told("model a 100 0 1;firm x;sell export x a 0 0 1 50;");
+        one.set(2, 1);
+        dutyIs(one, 0, 12000, 12000, 0, 0);
         rateAt200();
     }
 
@@ -1093,6 +1153,9 @@ public final class DutyCasePromisesTest {
         due("near the end", y.undertaking(0), 9999);
         y.set(4, 3);
         due("behind the end", y.undertaking(0), NONE);
+        y.costs(0, 0, 9902);
+        // 10199 less 9999 by 9999 is 200 in ten thousand, which is not below.
+        due("just behind the end", y.undertaking(0), NONE);
         DutyCase z = grouped();
         due("of averages", z.undertaking(0), 5);
         z.set(0, 1);
@@ -1263,6 +1326,11 @@ public final class DutyCasePromisesTest {
         writtenIs(y, 0, "abcdef 3.36%");
         y.price(0, 3);
         writtenIs(y, 0, "abcdef 999.99%");
+        y.price(0, 100);
+        y.costs(0, 0, 110);
+        writtenIs(y, 0, "abcdef 10.00%");
+        y.costs(0, 0, 200);
+        writtenIs(y, 0, "abcdef 100.00%");
         y.price(0, 300);
         y.costs(0, 0, 309);
         writtenIs(y, 0, "abcdef 3.00%");
