@@ -4,6 +4,7 @@ import java.util.function.LongSupplier;
 final class Check {
     private int wrong;
     private int asked;
+    private String about = "";
 
     /** An act's answer, where only its exception matters. */
     interface Act {
@@ -32,11 +33,20 @@ final class Check {
         return x;
     }
 
+    /** What the answers that follow are about: told with each that is not as due. */
+    void about(String what) {
+        about = what + ": ";
+    }
+
+    int asked() {
+        return asked;
+    }
+
     void due(String what, long got, long want) {
         asked++;
         if (got != want) {
             wrong++;
-            System.out.println(what + " answered " + got + ", due is " + want);
+            System.out.println(about + what + " answered " + got + ", due is " + want);
         }
     }
 
@@ -55,7 +65,7 @@ final class Check {
         }
         if (!got.equals(due.getName())) {
             wrong++;
-            System.out.println(what + " threw " + got + ", due is " + due.getName());
+            System.out.println(about + what + " threw " + got + ", due is " + due.getName());
         }
     }
 
