@@ -240,11 +240,11 @@ public final class DutyCasePromiseBoundsTest {
         afterFullOne();
     }
 
-    /** All places full, then a text, thrice: none of what was there shows in the same places. */
+    /** All places full, then a text, and that again: none of what was there shows in the same places. */
     private void afterFullOne() {
         DutyCase x = new DutyCase();
+        fill(x);
         for (int round = 0; round < 3; round++) {
-            fill(x);
             Check.end(x, sixModels() + "firm w;firm x;firm y;firm z;");
             due("read", x.read(), 0);
             int[] counts = {6, 4, 0, 0, 0, 0, 0, 0, 10, 0, 0, 0, 0};
@@ -259,6 +259,12 @@ public final class DutyCasePromiseBoundsTest {
                 due("off", x.sale(market, 7), 0);
             }
             due("value", x.value(0), 8000);
+        }
+        DutyCase y = new DutyCase();
+        for (int round = 0; round < 6; round++) {
+            Check.end(y, "firm x;model a 7 1 1;adjust home 1" + "+q".repeat(160) + ";sell home x a 0 0 2 999;");
+            due("read", y.read(), 1);
+            due("off of a long sum", y.sale(0, 7), 321);
         }
     }
 
@@ -662,6 +668,13 @@ public final class DutyCasePromiseBoundsTest {
                 due("month " + month, x.worth(0, 0, 3, month), 103000 + 1000 * month);
             }
         }
+        DutyCase full = told(PLAIN);
+        for (int n = 0; n < 40; n++) {
+            full.put(HOME, 0, 0, 0, n < 39 ? 0 : 11, 1, n < 39 ? 100 : 140);
+        }
+        due("all of forty", full.worth(0, 0, 0, NONE), 101000);
+        due("the last of forty", full.worth(0, 0, 0, 11), 140000);
+        due("all others", full.worth(0, 0, 0, 0), 100000);
         more("IllegalArgumentException: LEVEL, MONTH is none.");
         refusals.bounds(NUMBER, "level", 0, 3, (c, n) -> c.worth(1, 1, n, NONE));
         refusals.bounds(NUMBER, "month", NONE, 11, (c, n) -> c.worth(1, 1, 0, n));
@@ -1030,6 +1043,11 @@ public final class DutyCasePromiseBoundsTest {
         two.put(EXPORT, 0, 0, 0, 11, 1, 50);
         two.put(EXPORT, 0, 0, 0, 5, 1, 100);
         due("the first and the last", two.picked(0), 1 | 1 << 11);
+        DutyCase full = told(PLAIN);
+        for (int n = 0; n < 40; n++) {
+            full.put(EXPORT, 0, 0, 0, n < 39 ? 0 : 11, 1, n < 39 ? 100 : 97);
+        }
+        due("the last of forty", full.picked(0), 1 << 11);
     }
 
     private void collected() {
@@ -1071,6 +1089,13 @@ public final class DutyCasePromiseBoundsTest {
         due("twice 2997.3, each rounded down", y.back(0), 2997 * 2 - 6000);
         y.put(EXPORT, 0, 0, 1, 0, 1, 200);
         due("no rate, nothing less owed for the dear one", y.back(0), -6000);
+        DutyCase full = told(PLAIN);
+        for (int n = 0; n < 40; n++) {
+            full.put(EXPORT, 0, 0, n % 4, n % 12, 1, 97);
+        }
+        due("forty, each rounded down", full.back(0), 40 * 2997 - 40 * 3000);
+        full.undo();
+        due("one undone", full.back(0), 39 * 2997 - 39 * 3000);
     }
 
     private void weight() {
