@@ -24,7 +24,8 @@ public final class DutyCaseAgainstPlainTest {
     public static void main(String[] args) {
         int wrong = 0;
         int runs = args.length > 0 ? Integer.parseInt(args[0]) : RUNS;
-        for (int seed = 0; seed < runs && wrong < 3; seed++) {
+        int first = args.length > 1 ? Integer.parseInt(args[1]) : 0;
+        for (int seed = first; seed < first + runs && wrong < 3; seed++) {
             DutyCaseAgainstPlainTest run = new DutyCaseAgainstPlainTest(seed);
             run.go();
             if (run.wrong) {
